@@ -536,7 +536,7 @@ public final class GrantDesk {
         }
 
         /** What the predicate at a place comes to; the guard alone answers for what is no text. */
-        static int truth(long text, int at, int[] claims, int clock) {
+        private static int truth(long text, int at, int[] claims, int clock) {
             if (at < 0 || at >= BYTES) {
                 return FALSE;
             }
