@@ -1,14 +1,24 @@
+import java.util.NoSuchElementException;
 import java.util.function.Consumer;
 import java.util.function.Supplier;
 
-/** Collects the answers that are not the ones that are due, and ends a test by its exit code. */
+/** Collects the answers that are not the ones that are due. */
 final class Expect {
     static final Class<IllegalArgumentException> ARGUMENT = IllegalArgumentException.class;
     static final Class<IllegalStateException> STATE = IllegalStateException.class;
     static final Class<UnsupportedOperationException> UNSUPPORTED = UnsupportedOperationException.class;
-    static final Class<java.util.NoSuchElementException> NO_SUCH = java.util.NoSuchElementException.class;
+    static final Class<NoSuchElementException> NO_SUCH = NoSuchElementException.class;
+
+    /** A call of a desk with one number that is the test's subject. */
+    interface Call {
+        void on(GrantDesk desk, int number);
+    }
 
     private int wrong = 0;
+
+    boolean holds() {
+        return wrong == 0;
+    }
 
     void equal(String what, long got, long due) {
         if (got != due) {
@@ -42,19 +52,32 @@ final class Expect {
     /** The call throws just this exception, and leaves the scene as if it had never been made. */
     void refusedWhole(String what, Class<? extends RuntimeException> due,
             Supplier<GrantDesk> scene, Consumer<GrantDesk> call) {
+        unchanged(what, scene, desk -> refused(what, due, () -> call.accept(desk)));
+    }
+
+    /** With each of the numbers the call is refused whole. */
+    void refusedFor(int[] numbers, String what, Class<? extends RuntimeException> due,
+            Supplier<GrantDesk> scene, Call call) {
+        for (int number : numbers) {
+            refusedWhole(what + " " + number, due, scene, desk -> call.on(desk, number));
+        }
+    }
+
+    /** The call leaves the scene as if it had never been made. */
+    void unchanged(String what, Supplier<GrantDesk> scene, Consumer<GrantDesk> call) {
         GrantDesk touched = scene.get();
-        refused(what, due, () -> call.accept(touched));
+        call.accept(touched);
         same(what + " must change nothing", Snapshot.of(touched), Snapshot.of(scene.get()));
     }
 
     void end() {
-        if (wrong != 0) {
+        if (!holds()) {
             System.out.println(wrong + " answers are not as due");
             System.exit(1);
         }
     }
 
-    private void tell(String fault) {
+    void tell(String fault) {
         wrong++;
         System.out.println(fault);
     }

@@ -1,258 +1,300 @@
-/** Promise 11: redeem. */
+/** What is asked, granted and answered; what is refused stands in RedeemRefusedTest. */
+@Section("Promise 11: redeem")
 public final class RedeemTest {
+    private static final String ACCEPTED = "The ticket is accepted from the client.";
+    private static final String ASKED = "ASKED of each of its permissions whose resource is still registered: its scopes,"
+            + " and those of the scopes given that the resource has.";
+    private static final String GRANTED = "GRANTED: of those asked, the scopes of the resource's rules that are true on"
+            + " the ticket's claims and the clock.";
+    private static final String GIVEN = "When something is granted, the ticket is USED, and there is a new token of the"
+            + " client with that; and, if the token given is not 0, with what that one has of resources that are still"
+            + " registered (only scopes that they have), too: its number is answered.";
+    private static final String STAYS_GOOD = "(That one stays GOOD.)";
+    private static final String OPEN = "When nothing is granted, but a rule of one of the resources is OPEN that has one"
+            + " of the scopes asked of it: the ticket is rotated, and minus the new number is answered.";
+
     public static void main(String[] args) {
-        Expect expect = new Expect();
-        granted(expect);
-        scopesGiven(expect);
-        twoPermissions(expect);
-        removedAndRescoped(expect);
-        tokenGiven(expect);
-        open(expect);
-        openOnlyForTheAsked(expect);
-        nothing(expect);
-        wrongArguments(expect);
-        notAccepted(expect);
-        full(expect);
-        expect.end();
+        Tests.run(RedeemTest.class);
     }
 
-    private static void granted(Expect expect) {
-        GrantDesk desk = Scenes.served();
-        desk.tick(5);
-        int ticket = Scenes.pushed(desk, 2, 1, 2, 40);
-        expect.equal("the number", desk.redeem(2, ticket, 0, 0), 2);
-        expect.equal("of those asked alone", desk.introspect(1, 2, 0), 1);
-        expect.equal("the ticket is used", desk.ticket(ticket, 0), 2);
-        expect.equal("good", desk.token(2, 0), 1);
-        expect.equal("of the client", desk.token(2, 1), 2);
-        expect.equal("its end", desk.token(2, 2), 35);
-        expect.equal("one resource", desk.token(2, 3), 1);
-        expect.refused("one-time", Expect.STATE, () -> desk.redeem(2, ticket, 0, 0));
-        expect.equal("no ticket was made", desk.ticket(5, 0), -1);
-        GrantDesk unbound = Scenes.ruled(Texts.ever());
-        expect.equal("an unbound one", unbound.redeem(1, 1, 0, 0), 1);
-        expect.equal("is bound", unbound.ticket(1, 1), 2);
-        expect.equal("keeps its end", unbound.ticket(1, 3), 10);
-    }
-
-    private static void scopesGiven(Expect expect) {
-        GrantDesk desk = Scenes.owners();
-        desk.rule(1, 0, 15, 7);
-        desk.rule(1, 2, 15, 7);
-        expect.equal("more scopes", desk.redeem(0, desk.ask(1, 0, 1, -1, 0), 12, 0), 1);
-        expect.equal("that the resource has", desk.introspect(1, 1, 0), 5);
-        desk.rescope(1, 0, 15);
-        expect.equal("and had then", desk.introspect(1, 1, 0), 5);
-        expect.equal("none of a resource without permission", desk.introspect(1, 1, 2), 0);
-        expect.equal("all scopes", desk.redeem(0, desk.ask(1, 2, 8, -1, 0), 15, 0), 2);
-        expect.equal("are given", desk.introspect(1, 2, 2), 15);
-        desk.clear(1, 0);
-        desk.rule(1, 0, 2, 7);
-        expect.equal("a rule for a scope given", desk.redeem(0, desk.ask(1, 0, 1, -1, 0), 2, 0), 3);
-        expect.equal("grants that alone", desk.introspect(1, 3, 0), 2);
-    }
-
-    private static void twoPermissions(Expect expect) {
-        GrantDesk desk = Scenes.owners();
-        desk.rule(1, 0, 3, 7);
-        desk.rule(1, 2, 8, Texts.text(Texts.is(1, 1)));
-        expect.equal("one grants, one is open", desk.redeem(0, desk.ask(1, 0, 7, 2, 15), 0, 0), 1);
-        expect.equal("scopes of the one", desk.introspect(1, 1, 0), 3);
-        expect.equal("none of the open one", desk.introspect(1, 1, 2), 0);
-        expect.equal("one resource", desk.token(1, 3), 1);
-        int ticket = Scenes.pushed(desk, 0, desk.ask(1, 2, 9, 0, 4), 1, 1);
-        expect.equal("both", desk.redeem(0, ticket, 2, 0), 2);
-        expect.equal("the first", desk.introspect(1, 2, 2), 8);
-        expect.equal("the other by a scope given", desk.introspect(1, 2, 0), 2);
-        expect.equal("two resources", desk.token(2, 3), 2);
-    }
-
-    private static void removedAndRescoped(Expect expect) {
-        GrantDesk desk = Scenes.owners();
-        desk.rule(1, 0, 15, 7);
-        desk.rule(1, 2, 15, 7);
-        int two = desk.ask(1, 0, 7, 2, 15);
-        int one = desk.ask(1, 0, 7, -1, 0);
-        int lacking = desk.ask(1, 2, 8, -1, 0);
-        desk.remove(1, 0);
-        expect.equal("the one that is left", desk.redeem(0, two, 0, 0), 1);
-        expect.equal("one resource", desk.token(1, 3), 1);
-        expect.refused("none is left", Expect.UNSUPPORTED, () -> desk.redeem(0, one, 15, 0));
-        desk.rescope(1, 2, 6);
-        expect.equal("the ticket's own scopes stay", desk.redeem(0, lacking, 3, 0), 2);
-        expect.equal("hidden now", desk.introspect(1, 2, 2), 2);
-        desk.rescope(1, 2, 15);
-        expect.equal("and there", desk.introspect(1, 2, 2), 10);
-    }
-
-    private static void tokenGiven(Expect expect) {
-        GrantDesk desk = Scenes.owners();
-        desk.rule(1, 0, 15, 7);
-        desk.rule(1, 2, 15, 7);
-        desk.rule(2, 1, 15, 7);
+    /** As generous; token 2 of client 0 has scopes 6 of resource 0, 2 of resource 1 and 15 of resource 2. */
+    private static GrantDesk collected() {
+        GrantDesk desk = Scenes.generous();
         desk.redeem(0, desk.ask(1, 0, 6, 2, 15), 0, 0);
-        desk.tick(3);
-        expect.equal("of another owner", desk.redeem(0, desk.ask(2, 1, 1, -1, 0), 0, 1), 2);
-        expect.equal("granted", desk.introspect(2, 2, 1), 1);
-        expect.equal("kept", desk.introspect(1, 2, 0), 6);
-        expect.equal("kept, too", desk.introspect(1, 2, 2), 15);
-        expect.equal("three resources", desk.token(2, 3), 3);
-        expect.equal("its own end", desk.token(2, 2), 33);
-        expect.equal("the first stays good", desk.token(1, 0), 1);
-        expect.equal("as it was", desk.introspect(2, 1, 1), 0);
-        expect.equal("joined with its own", desk.redeem(0, desk.ask(1, 0, 1, -1, 0), 0, 2), 3);
-        expect.equal("both", desk.introspect(1, 3, 0), 7);
-        desk.rescope(1, 0, 3);
-        desk.rescope(1, 2, 8);
-        desk.remove(2, 1);
-        expect.equal("only what there is", desk.redeem(0, desk.ask(1, 2, 8, -1, 0), 0, 3), 4);
-        expect.equal("not of a removed one", desk.token(4, 3), 2);
-        desk.rescope(1, 0, 15);
-        desk.rescope(1, 2, 15);
-        expect.equal("only scopes that it had", desk.introspect(1, 4, 0), 3);
-        expect.equal("and it, too", desk.introspect(1, 4, 2), 8);
-        desk.rescope(1, 0, 8);
-        expect.equal("none is left of one", desk.redeem(0, desk.ask(1, 2, 8, -1, 0), 0, 4), 5);
-        expect.equal("and it is not counted", desk.token(5, 3), 1);
-        tokenGivenGrantsNothing(expect);
-    }
-
-    private static void tokenGivenGrantsNothing(Expect expect) {
-        GrantDesk desk = Scenes.served();
-        desk.clear(1, 0);
-        expect.refused("a token alone grants nothing", Expect.UNSUPPORTED, () -> desk.redeem(0, 1, 4, 1));
-        expect.equal("no new token", desk.token(2, 0), -1);
-        expect.equal("the token stays", desk.token(1, 0), 1);
-    }
-
-    private static void open(Expect expect) {
-        GrantDesk desk = Scenes.ruled(Texts.all(Texts.is(0, 5), Texts.is(1, 6)));
-        desk.tick(2);
-        int ticket = Scenes.pushed(desk, 1, 1, 0, 5);
-        desk.tick(3);
-        expect.equal("minus the new number", desk.redeem(1, ticket, 0, 0), -3);
-        expect.equal("the old one is used", desk.ticket(ticket, 0), 2);
-        expect.equal("the new one is live", desk.ticket(3, 0), 1);
-        expect.equal("with its client", desk.ticket(3, 1), 2);
-        expect.equal("and claims", desk.ticket(3, 2), 1);
-        expect.equal("and a new end", desk.ticket(3, 3), 15);
-        expect.equal("no token", desk.token(1, 0), -1);
-        expect.refused("not for another client", Expect.STATE, () -> desk.redeem(0, 3, 0, 0));
-        int full = Scenes.pushed(desk, 1, 3, 1, 6);
-        expect.equal("the old one's claims stay", desk.ticket(3, 2), 1);
-        expect.equal("granted at last", desk.redeem(1, full, 0, 0), 1);
-        expect.equal("with its permission", desk.introspect(1, 1, 0), 1);
-        GrantDesk unbound = Scenes.ruled(Texts.is(0, 5));
-        expect.equal("an unbound one", unbound.redeem(2, 1, 0, 0), -2);
-        expect.equal("is bound", unbound.ticket(1, 1), 3);
-        expect.equal("and so is the new one", unbound.ticket(2, 1), 3);
-    }
-
-    private static void openOnlyForTheAsked(Expect expect) {
-        GrantDesk desk = Scenes.owners();
-        desk.rule(1, 0, 2, Texts.text(Texts.is(0, 5)));
-        desk.rule(1, 2, 1, Texts.text(Texts.is(0, 5)));
-        int apart = desk.ask(1, 0, 1, -1, 0);
-        int given = desk.ask(1, 0, 1, -1, 0);
-        int lacking = desk.ask(1, 0, 1, -1, 0);
-        int other = desk.ask(1, 0, 1, 2, 1);
-        int gone = desk.ask(1, 0, 1, 2, 1);
-        expect.refused("open for a scope not asked", Expect.UNSUPPORTED, () -> desk.redeem(0, apart, 4, 0));
-        expect.equal("asked by the scopes given", desk.redeem(0, given, 2, 0), -6);
-        expect.equal("the new one asks as the old did", desk.ticket(6, 0), 1);
-        expect.refused("no longer given", Expect.UNSUPPORTED, () -> desk.redeem(0, 6, 0, 0));
-        expect.equal("the other resource's rule is open", desk.redeem(0, other, 0, 0), -7);
-        desk.rescope(1, 0, 5);
-        expect.refused("a scope that it lacks", Expect.UNSUPPORTED, () -> desk.redeem(0, lacking, 2, 0));
-        desk.remove(1, 2);
-        expect.refused("of a removed one", Expect.UNSUPPORTED, () -> desk.redeem(0, gone, 0, 0));
-    }
-
-    private static void nothing(Expect expect) {
-        GrantDesk desk = Scenes.ruled(Texts.since(9));
-        expect.refused("false", Expect.UNSUPPORTED, () -> desk.redeem(1, 1, 0, 0));
-        expect.equal("used", desk.ticket(1, 0), 2);
-        expect.equal("bound", desk.ticket(1, 1), 2);
-        expect.equal("its end stays", desk.ticket(1, 3), 10);
-        expect.equal("its claims, too", desk.ticket(1, 2), 0);
-        expect.equal("no new ticket", desk.ticket(2, 0), -1);
-        expect.equal("no token", desk.token(1, 0), -1);
-        expect.refused("used", Expect.STATE, () -> desk.redeem(1, 1, 0, 0));
-        desk.clear(1, 0);
-        int ticket = desk.ask(1, 0, 15, -1, 0);
-        expect.refused("without rules", Expect.UNSUPPORTED, () -> desk.redeem(0, ticket, 15, 0));
-        desk.rule(1, 0, 2, 7);
-        int another = desk.ask(1, 0, 1, -1, 0);
-        expect.refused("true for another scope", Expect.UNSUPPORTED, () -> desk.redeem(0, another, 12, 0));
-    }
-
-    private static void wrongArguments(Expect expect) {
-        for (int ticket : new int[] {3, 2, 0}) {
-            for (int client : new int[] {-1, 3, Integer.MIN_VALUE, Integer.MAX_VALUE}) {
-                expect.refusedWhole("client " + client, Expect.ARGUMENT, Scenes::served, d -> d.redeem(client, ticket, 0, 0));
-            }
-            for (int scopes : new int[] {-1, 16, Integer.MIN_VALUE, Integer.MAX_VALUE}) {
-                expect.refusedWhole("scopes " + scopes, Expect.ARGUMENT, Scenes::served, d -> d.redeem(0, ticket, scopes, 0));
-            }
-            for (int token : new int[] {-1, 2, 60, Integer.MIN_VALUE, Integer.MAX_VALUE}) {
-                expect.refusedWhole("token " + token, Expect.ARGUMENT, Scenes::served, d -> d.redeem(0, ticket, 0, token));
-            }
-            expect.refusedWhole("another's token", Expect.ARGUMENT, Scenes::served, d -> d.redeem(1, ticket, 0, 1));
-            expect.refusedWhole("a dropped token", Expect.ARGUMENT, RedeemTest::dropped, d -> d.redeem(0, ticket, 0, 1));
-        }
-        GrantDesk desk = Scenes.served();
-        desk.tick(29);
-        int last = desk.ask(1, 0, 4, -1, 0);
-        desk.tick(1);
-        expect.refused("a token at its end", Expect.ARGUMENT, () -> desk.redeem(0, last, 0, 1));
-        expect.equal("without it", desk.redeem(0, last, 0, 0), 2);
-    }
-
-    private static GrantDesk dropped() {
-        GrantDesk desk = Scenes.served();
+        desk.redeem(0, desk.ask(2, 1, 2, -1, 0), 0, 1);
         desk.drop(0, 1);
         return desk;
     }
 
-    private static GrantDesk late() {
-        GrantDesk desk = Scenes.served();
-        desk.tick(10);
-        return desk;
+    /** The number of a token for one scope of resource 2 and what token 2 has. */
+    private static int upgraded(GrantDesk desk) {
+        return desk.redeem(0, desk.ask(1, 2, 8, -1, 0), 0, 2);
     }
 
-    private static GrantDesk bound() {
-        GrantDesk desk = Scenes.served();
-        Scenes.pushed(desk, 1, 1, 2, 40);
-        return desk;
-    }
-
-    private static void notAccepted(Expect expect) {
-        for (int ticket : new int[] {0, -1, 4, 60, 61, Integer.MIN_VALUE, Integer.MAX_VALUE}) {
-            expect.refusedWhole("ticket " + ticket, Expect.STATE, Scenes::served, d -> d.redeem(0, ticket, 0, 0));
+    @Sentence(ACCEPTED)
+    static void anUnboundOneIsBound(Expect expect) {
+        for (int client = 0; client <= 2; client++) {
+            GrantDesk desk = Scenes.ruled(Texts.ever());
+            expect.equal("redeem", desk.redeem(client, 1, 0, 0), 1);
+            expect.equal("its client", desk.ticket(1, 1), client + 1);
+            expect.equal("its end", desk.ticket(1, 3), 10);
         }
-        expect.refusedWhole("used", Expect.STATE, Scenes::served, d -> d.redeem(0, 2, 0, 0));
-        expect.refusedWhole("at its end", Expect.STATE, RedeemTest::late, d -> d.redeem(0, 1, 4, 1));
-        expect.refusedWhole("another's", Expect.STATE, RedeemTest::bound, d -> d.redeem(0, 4, 0, 0));
-        expect.refusedWhole("rotated", Expect.STATE, RedeemTest::bound, d -> d.redeem(1, 1, 0, 0));
-        GrantDesk desk = Scenes.served();
-        desk.tick(9);
-        expect.equal("just before its end", desk.redeem(0, 1, 4, 0), 2);
     }
 
-    private static void full(Expect expect) {
-        GrantDesk open = Scenes.crowded(Texts.is(2, 40));
-        expect.refused("no room to rotate", Expect.STATE, () -> open.redeem(0, 60, 0, 0));
-        expect.equal("still live", open.ticket(60, 0), 1);
-        expect.equal("bound to none", open.ticket(60, 1), 0);
-        open.clear(1, 0);
-        expect.refused("nothing to rotate", Expect.UNSUPPORTED, () -> open.redeem(0, 60, 0, 0));
-        expect.equal("used", open.ticket(60, 0), 2);
-        expect.equal("bound", open.ticket(60, 1), 1);
-        GrantDesk free = Scenes.crowded(Texts.ever());
-        for (int ticket = 1; ticket <= 60; ticket++) {
-            expect.equal("token", free.redeem(ticket % 3, ticket, 0, 0), ticket);
-        }
-        expect.equal("the last one", free.introspect(1, 60, 0), 1);
-        expect.equal("there is no 61st", free.token(61, 0), -1);
+    @Sentence(ACCEPTED)
+    static void aBoundOneFromItsClient(Expect expect) {
+        GrantDesk desk = Scenes.bound();
+        expect.equal("redeem", desk.redeem(1, 4, 0, 0), 2);
+        expect.equal("its client", desk.ticket(4, 1), 2);
+    }
+
+    @Sentence(ASKED)
+    static void thePermissionsScopes(Expect expect) {
+        GrantDesk desk = Scenes.generous();
+        desk.redeem(0, desk.ask(1, 0, 5, 2, 8), 0, 0);
+        expect.equal("of the first", desk.introspect(1, 1, 0), 5);
+        expect.equal("of the other", desk.introspect(1, 1, 2), 8);
+    }
+
+    @Sentence(ASKED)
+    static void theScopesGivenThatTheResourceHas(Expect expect) {
+        GrantDesk desk = Scenes.generous();
+        desk.redeem(0, desk.ask(1, 0, 1, 2, 1), 12, 0);
+        desk.rescope(1, 0, 15);
+        expect.equal("of the first, which lacks 8", desk.introspect(1, 1, 0), 5);
+        expect.equal("of the other", desk.introspect(1, 1, 2), 13);
+        expect.equal("of none without a permission", desk.introspect(2, 1, 1), 0);
+    }
+
+    @Sentence(ASKED)
+    static void scopesThatARescopeTookFromTheResource(Expect expect) {
+        GrantDesk desk = Scenes.generous();
+        int ticket = desk.ask(1, 2, 8, -1, 0);
+        desk.rescope(1, 2, 6);
+        desk.redeem(0, ticket, 3, 0);
+        desk.rescope(1, 2, 15);
+        expect.equal("the permission's, but not those given", desk.introspect(1, 1, 2), 10);
+    }
+
+    @Sentence(ASKED)
+    static void nothingOfAResourceThatIsTakenOut(Expect expect) {
+        GrantDesk desk = Scenes.generous();
+        int two = desk.ask(1, 0, 7, 2, 15);
+        int one = desk.ask(1, 0, 7, -1, 0);
+        desk.remove(1, 0);
+        expect.equal("the other is left", desk.redeem(0, two, 0, 0), 1);
+        expect.equal("alone", desk.token(1, 3), 1);
+        expect.refused("none is left", Expect.UNSUPPORTED, () -> desk.redeem(0, one, 15, 0));
+    }
+
+    @Sentence(GRANTED)
+    static void ofThoseAskedAlone(Expect expect) {
+        GrantDesk desk = Scenes.owners();
+        desk.rule(1, 2, 6, Texts.EVER);
+        desk.redeem(0, desk.ask(1, 2, 3, -1, 0), 8, 0);
+        expect.equal("asked 11, ruled 6", desk.introspect(1, 1, 2), 2);
+    }
+
+    @Sentence(GRANTED)
+    static void theRulesThatAreTrueAlone(Expect expect) {
+        GrantDesk desk = Scenes.owners();
+        desk.rule(1, 2, 1, Texts.EVER);
+        desk.rule(1, 2, 2, Texts.text(Texts.not(Texts.ever())));
+        desk.rule(1, 2, 4, Texts.text(Texts.is(0, 0)));
+        desk.rule(1, 2, 8, Texts.EVER);
+        expect.equal("redeem", desk.redeem(0, desk.ask(1, 2, 15, -1, 0), 0, 0), 1);
+        expect.equal("neither the false nor the open one", desk.introspect(1, 1, 2), 9);
+    }
+
+    @Sentence(GRANTED)
+    static void onTheTicketsOwnClaims(Expect expect) {
+        GrantDesk desk = Scenes.ruled(Texts.is(3, 8));
+        int without = desk.ask(1, 0, 1, -1, 0);
+        int with = Scenes.pushed(desk, 0, 1, 3, 8);
+        expect.equal("without the claim", desk.redeem(0, without, 0, 0), -4);
+        expect.equal("with it", desk.redeem(0, with, 0, 0), 1);
+    }
+
+    @Sentence(GRANTED)
+    static void onTheClockOfThisCall(Expect expect) {
+        GrantDesk late = Scenes.later(Scenes.ruled(Texts.since(5)), 5);
+        expect.equal("at 5", late.redeem(0, 1, 0, 0), 1);
+        GrantDesk early = Scenes.later(Scenes.ruled(Texts.since(5)), 4);
+        expect.refused("at 4", Expect.UNSUPPORTED, () -> early.redeem(0, 1, 0, 0));
+    }
+
+    @Sentence(GRANTED)
+    static void ofEachResourceByItsOwnRules(Expect expect) {
+        GrantDesk desk = Scenes.owners();
+        desk.rule(1, 0, 3, Texts.EVER);
+        desk.rule(1, 2, 12, Texts.EVER);
+        desk.rule(2, 1, 15, Texts.EVER);
+        desk.redeem(0, desk.ask(1, 0, 6, 2, 6), 0, 0);
+        expect.equal("of the first", desk.introspect(1, 1, 0), 2);
+        expect.equal("of the other", desk.introspect(1, 1, 2), 4);
+        expect.equal("of no third", desk.token(1, 3), 2);
+    }
+
+    @Sentence(GRANTED)
+    static void nothingOfAResourceWithoutRules(Expect expect) {
+        GrantDesk desk = Scenes.owners();
+        desk.rule(1, 0, 1, Texts.EVER);
+        expect.equal("redeem", desk.redeem(0, desk.ask(1, 0, 7, 2, 15), 0, 0), 1);
+        expect.equal("the other has none", desk.token(1, 3), 1);
+    }
+
+    @Sentence(GIVEN)
+    static void theTicketIsUsed(Expect expect) {
+        GrantDesk desk = Scenes.ruled(Texts.ever());
+        desk.redeem(0, 1, 0, 0);
+        expect.equal("used", desk.ticket(1, 0), 2);
+        expect.equal("not rotated", desk.ticket(2, 0), -1);
+        expect.refused("not again", Expect.STATE, () -> desk.redeem(0, 1, 0, 0));
+    }
+
+    @Sentence(GIVEN)
+    static void aNewTokenOfTheClient(Expect expect) {
+        GrantDesk desk = Scenes.later(Scenes.served(), 5);
+        expect.equal("its number", desk.redeem(2, 1, 4, 0), 2);
+        expect.equal("good", desk.token(2, 0), 1);
+        expect.equal("its client", desk.token(2, 1), 2);
+        expect.equal("its end", desk.token(2, 2), 35);
+        expect.equal("its resources", desk.token(2, 3), 1);
+    }
+
+    @Sentence(GIVEN)
+    static void somethingGrantedGoesBeforeWhatIsOpen(Expect expect) {
+        GrantDesk desk = Scenes.owners();
+        desk.rule(1, 0, 1, Texts.text(Texts.is(0, 0)));
+        desk.rule(1, 2, 1, Texts.EVER);
+        expect.equal("a token", desk.redeem(0, desk.ask(1, 0, 1, 2, 1), 0, 0), 1);
+        expect.equal("without the open one", desk.introspect(1, 1, 0), 0);
+    }
+
+    @Sentence(GIVEN)
+    static void withoutATokenNothingIsAdded(Expect expect) {
+        GrantDesk desk = collected();
+        int token = desk.redeem(0, desk.ask(1, 2, 8, -1, 0), 0, 0);
+        expect.equal("its resources", desk.token(token, 3), 1);
+        expect.equal("its scopes", desk.introspect(1, token, 2), 8);
+    }
+
+    @Sentence(GIVEN)
+    static void withWhatTheTokenGivenHas(Expect expect) {
+        GrantDesk desk = collected();
+        int token = upgraded(desk);
+        expect.equal("its number", token, 3);
+        expect.equal("granted and held", desk.introspect(1, token, 2), 15);
+        expect.equal("held", desk.introspect(1, token, 0), 6);
+        expect.equal("held of another owner", desk.introspect(2, token, 1), 2);
+        expect.equal("its resources", desk.token(token, 3), 3);
+    }
+
+    @Sentence(GIVEN)
+    static void joinedScopeByScope(Expect expect) {
+        GrantDesk desk = collected();
+        int token = desk.redeem(0, desk.ask(1, 0, 3, -1, 0), 0, 2);
+        expect.equal("granted 3, held 6", desk.introspect(1, token, 0), 7);
+    }
+
+    @Sentence(GIVEN)
+    static void notOfAResourceThatIsTakenOut(Expect expect) {
+        GrantDesk desk = collected();
+        desk.remove(1, 0);
+        int token = upgraded(desk);
+        expect.equal("its resources", desk.token(token, 3), 2);
+    }
+
+    @Sentence(GIVEN)
+    static void onlyScopesThatTheResourceHas(Expect expect) {
+        GrantDesk desk = collected();
+        desk.rescope(1, 0, 3);
+        int token = upgraded(desk);
+        desk.rescope(1, 0, 15);
+        expect.equal("held 6, had 3", desk.introspect(1, token, 0), 2);
+        desk.rescope(1, 0, 8);
+        int another = upgraded(desk);
+        desk.rescope(1, 0, 15);
+        expect.equal("held 6, had 8", desk.introspect(1, another, 0), 0);
+        expect.equal("not counted", desk.token(another, 3), 2);
+    }
+
+    @Sentence(GIVEN)
+    static void theTokensOwnEndIsNew(Expect expect) {
+        GrantDesk desk = Scenes.later(collected(), 29);
+        int token = upgraded(desk);
+        expect.equal("its end", desk.token(token, 2), 59);
+        desk.tick(1);
+        expect.equal("held beyond the other's end", desk.introspect(1, token, 0), 6);
+    }
+
+    @Sentence(STAYS_GOOD)
+    static void theTokenGivenStaysAsItWas(Expect expect) {
+        GrantDesk desk = Scenes.later(collected(), 3);
+        desk.redeem(0, desk.ask(1, 0, 1, -1, 0), 0, 2);
+        expect.equal("good", desk.token(2, 0), 1);
+        expect.equal("its end", desk.token(2, 2), 30);
+        expect.equal("its scopes", desk.introspect(1, 2, 0), 6);
+        expect.equal("can be given again", upgraded(desk), 4);
+    }
+
+    @Sentence(OPEN)
+    static void theTicketIsRotated(Expect expect) {
+        GrantDesk desk = Scenes.ruled(Texts.all(Texts.is(0, 5), Texts.is(1, 6)));
+        int ticket = Scenes.pushed(desk, 1, 1, 0, 5);
+        desk.tick(3);
+        expect.equal("minus the new number", desk.redeem(1, ticket, 0, 0), -3);
+        expect.equal("the old one is used", desk.ticket(2, 0), 2);
+        expect.equal("the new one is live", desk.ticket(3, 0), 1);
+        expect.equal("its client", desk.ticket(3, 1), 2);
+        expect.equal("its claims", desk.ticket(3, 2), 1);
+        expect.equal("its end", desk.ticket(3, 3), 13);
+        expect.equal("no token", desk.token(1, 0), -1);
+        expect.equal("granted at last", desk.redeem(1, Scenes.pushed(desk, 1, 3, 1, 6), 0, 0), 1);
+        expect.equal("its permission", desk.introspect(1, 1, 0), 1);
+    }
+
+    @Sentence(OPEN)
+    static void anUnboundOneIsBoundAndRotated(Expect expect) {
+        GrantDesk desk = Scenes.ruled(Texts.is(0, 5));
+        expect.equal("minus the new number", desk.redeem(2, 1, 0, 0), -2);
+        expect.equal("the old one's client", desk.ticket(1, 1), 3);
+        expect.equal("the new one's client", desk.ticket(2, 1), 3);
+        expect.refused("for no other", Expect.STATE, () -> desk.redeem(0, 2, 0, 0));
+    }
+
+    @Sentence(OPEN)
+    static void theScopesGivenDoNotStay(Expect expect) {
+        GrantDesk desk = Scenes.owners();
+        desk.rule(1, 0, 2, Texts.text(Texts.is(0, 5)));
+        int ticket = desk.ask(1, 0, 1, -1, 0);
+        expect.equal("open for the scope given", desk.redeem(0, ticket, 2, 0), -2);
+        expect.refused("no longer given", Expect.UNSUPPORTED, () -> desk.redeem(0, 2, 0, 0));
+    }
+
+    @Sentence(OPEN)
+    static void theTokenGivenDoesNotMatter(Expect expect) {
+        GrantDesk desk = Scenes.served();
+        expect.equal("minus the new number", desk.redeem(0, 3, 0, 1), -4);
+        expect.equal("good", desk.token(1, 0), 1);
+        expect.equal("no new one", desk.token(2, 0), -1);
+    }
+
+    @Sentence(OPEN)
+    static void anyOpenRuleOfEitherResource(Expect expect) {
+        GrantDesk desk = Scenes.owners();
+        desk.rule(1, 0, 1, Texts.text(Texts.since(9)));
+        desk.rule(1, 2, 1, Texts.text(Texts.since(9)));
+        desk.rule(1, 2, 2, Texts.text(Texts.is(0, 5)));
+        expect.equal("the other's", desk.redeem(0, desk.ask(1, 0, 1, 2, 2), 0, 0), -2);
+        expect.equal("the first's", desk.redeem(0, desk.ask(1, 2, 2, 0, 1), 0, 0), -4);
+    }
+
+    @Sentence(OPEN)
+    static void openForOneOfTheScopesAsked(Expect expect) {
+        GrantDesk desk = Scenes.owners();
+        desk.rule(1, 2, 12, Texts.text(Texts.is(0, 5)));
+        expect.equal("one of its scopes is asked", desk.redeem(0, desk.ask(1, 2, 5, -1, 0), 0, 0), -2);
+        expect.refused("none is", Expect.UNSUPPORTED, () -> desk.redeem(0, desk.ask(1, 2, 3, -1, 0), 0, 0));
     }
 }

@@ -1,46 +1,95 @@
-/** Promise 5: rescope. */
+@Section("Promise 5: rescope")
 public final class RescopeTest {
+    private static final String RESCOPED = "The resource has other scopes from now on: those that it had.";
+    private static final String NO_SUCH = "NoSuchElementException: as for remove.";
+    private static final String ARGUMENT = "IllegalArgumentException: scopes not 1 .. 15.";
+    private static final String STAYS = "(Rules, tickets and tokens stay as they are.)";
+
     public static void main(String[] args) {
-        Expect expect = new Expect();
-        ordinary(expect);
-        restStays(expect);
-        wrong(expect);
-        expect.end();
+        Tests.run(RescopeTest.class);
     }
 
-    private static void ordinary(Expect expect) {
+    @Sentence(RESCOPED)
+    static void answersThoseThatItHad(Expect expect) {
         GrantDesk desk = Scenes.owners();
-        expect.equal("what it had", desk.rescope(1, 0, 8), 7);
+        expect.equal("at first", desk.rescope(1, 0, 8), 7);
         expect.equal("has now", desk.resource(0, 1), 8);
+        expect.equal("then", desk.rescope(1, 0, 8), 8);
         expect.equal("the others stay", desk.resource(2, 1), 15);
-        expect.equal("what it had then", desk.rescope(1, 0, 15), 8);
-        expect.refused("ask goes by the new ones", Expect.ARGUMENT, () -> {
-            desk.rescope(1, 0, 1);
-            desk.ask(1, 0, 2, -1, 0);
-        });
+        expect.equal("the owner stays", desk.resource(0, 0), 0);
     }
 
-    private static void restStays(Expect expect) {
+    @Sentence(RESCOPED)
+    static void fromNowOnTheseAreAsked(Expect expect) {
+        GrantDesk desk = Scenes.owners();
+        desk.rescope(1, 0, 8);
+        expect.refused("no more", Expect.ARGUMENT, () -> desk.ask(1, 0, 1, -1, 0));
+        expect.equal("from now on", desk.ask(1, 0, 8, -1, 0), 1);
+    }
+
+    @Sentence(NO_SUCH)
+    static void keyless(Expect expect) {
+        expect.refusedFor(Scenes.KEYLESS, "key", Expect.NO_SUCH, Scenes::served, (desk, key) -> desk.rescope(key, 0, 1));
+        expect.refusedFor(new int[] {0, 1}, "key", Expect.NO_SUCH, GrantDesk::new, (desk, key) -> desk.rescope(key, 0, 1));
+    }
+
+    @Sentence(NO_SUCH)
+    static void noResourceOfTheOwner(Expect expect) {
+        expect.refusedFor(Scenes.NOT_OF_KEY_1, "resource", Expect.NO_SUCH, Scenes::served,
+                (desk, r) -> desk.rescope(1, r, 1));
+        expect.refusedWhole("by another owner", Expect.NO_SUCH, Scenes::served, desk -> desk.rescope(2, 0, 1));
+    }
+
+    @Sentence(ARGUMENT)
+    static void leastAndGreatestScopes(Expect expect) {
+        GrantDesk desk = Scenes.owners();
+        desk.rescope(1, 0, 1);
+        expect.equal("the least", desk.rescope(1, 0, 15), 1);
+        expect.equal("the greatest", desk.resource(0, 1), 15);
+    }
+
+    @Sentence(ARGUMENT)
+    static void scopesOutside(Expect expect) {
+        expect.refusedFor(Edges.outside(1, 15), "scopes", Expect.ARGUMENT, Scenes::served,
+                (desk, scopes) -> desk.rescope(1, 0, scopes));
+    }
+
+    @Sentence(NO_SUCH + " " + ARGUMENT)
+    static void theFirstThatIsDue(Expect expect) {
+        new Mixture(expect, (desk, a) -> desk.rescope(a[0], a[1], a[2]), 1, 0, 1)
+                .lists(Expect.NO_SUCH).wrong(0, 0, 3, 4).wrong(1, -1, 1, 3, 4)
+                .lists(Expect.ARGUMENT).wrong(2, 0, 16)
+                .in(Scenes::served);
+    }
+
+    @Sentence(STAYS)
+    static void rulesStay(Expect expect) {
         GrantDesk desk = Scenes.served();
         desk.rescope(1, 0, 8);
-        expect.equal("rules stay", desk.resource(0, 2), 2);
-        expect.equal("the token's scopes are hidden", desk.introspect(1, 1, 0), 0);
-        expect.equal("but still counted", desk.token(1, 3), 1);
-        int ticket = Scenes.pushed(desk, 0, 1, 2, 40);
-        expect.equal("the ticket grants what it had", desk.redeem(0, ticket, 0, 0), 2);
-        desk.rescope(1, 0, 15);
-        expect.equal("the old token's scopes are seen again", desk.introspect(1, 1, 0), 4);
-        expect.equal("the new token has the ticket's scope", desk.introspect(1, 2, 0), 1);
+        expect.equal("their number", desk.resource(0, 2), 2);
+        desk.rescope(1, 0, 7);
+        expect.equal("what they grant", desk.redeem(0, 1, 4, 0), 2);
+        expect.equal("as before", desk.introspect(1, 2, 0), 4);
     }
 
-    private static void wrong(Expect expect) {
-        for (int scopes : new int[] {0, 16, -1, Integer.MIN_VALUE, Integer.MAX_VALUE}) {
-            expect.refusedWhole("scopes " + scopes, Expect.ARGUMENT, Scenes::served, d -> d.rescope(1, 0, scopes));
-            expect.refusedWhole("keyless first", Expect.NO_SUCH, Scenes::served, d -> d.rescope(3, 0, scopes));
-            expect.refusedWhole("another's first", Expect.NO_SUCH, Scenes::served, d -> d.rescope(1, 1, scopes));
-        }
-        for (int r : new int[] {-1, 1, 3, 4, 12, Integer.MIN_VALUE, Integer.MAX_VALUE}) {
-            expect.refusedWhole("resource " + r, Expect.NO_SUCH, Scenes::served, d -> d.rescope(1, r, 1));
-        }
+    @Sentence(STAYS)
+    static void ticketsStay(Expect expect) {
+        GrantDesk desk = Scenes.bound();
+        desk.rescope(1, 0, 8);
+        expect.equal("live", desk.ticket(4, 0), 1);
+        expect.equal("the claim", desk.ticket(4, 2), 4);
+        expect.equal("grants a scope that the resource lacks now", desk.redeem(1, 4, 0, 0), 2);
+        desk.rescope(1, 0, 15);
+        expect.equal("of the ticket", desk.introspect(1, 2, 0), 1);
+    }
+
+    @Sentence(STAYS)
+    static void tokensStay(Expect expect) {
+        GrantDesk desk = Scenes.served();
+        desk.rescope(1, 0, 8);
+        expect.equal("good", desk.token(1, 0), 1);
+        expect.equal("the resource is counted", desk.token(1, 3), 1);
+        desk.rescope(1, 0, 15);
+        expect.equal("its scopes", desk.introspect(1, 1, 0), 4);
     }
 }

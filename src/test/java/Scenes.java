@@ -1,5 +1,10 @@
 /** Desks in states that several tests begin with. */
 final class Scenes {
+    /** In owners and served: no key, and a revoked one's number. */
+    static final int[] KEYLESS = Edges.and(Edges.outside(1, 3), 3);
+    /** In owners and served: no resource, another owner's, and one taken out. */
+    static final int[] NOT_OF_KEY_1 = Edges.and(Edges.outside(0, 3), 1, 3);
+
     private Scenes() {
     }
 
@@ -24,11 +29,27 @@ final class Scenes {
     static GrantDesk served() {
         GrantDesk desk = owners();
         desk.rule(1, 0, 1, Texts.text(Texts.is(2, 40)));
-        desk.rule(1, 0, 4, Texts.text(Texts.ever()));
+        desk.rule(1, 0, 4, Texts.EVER);
         desk.ask(1, 0, 3, -1, 0);
         desk.ask(1, 0, 4, -1, 0);
         desk.redeem(0, 2, 0, 0);
         desk.ask(1, 0, 1, -1, 0);
+        return desk;
+    }
+
+    /** As served; ticket 1 was rotated to ticket 4, which is bound to client 1 and has claim 2 = 40. */
+    static GrantDesk bound() {
+        GrantDesk desk = served();
+        pushed(desk, 1, 1, 2, 40);
+        return desk;
+    }
+
+    /** As owners, with every scope of resources 0, 1 and 2 granted ever. */
+    static GrantDesk generous() {
+        GrantDesk desk = owners();
+        desk.rule(1, 0, 15, Texts.EVER);
+        desk.rule(2, 1, 15, Texts.EVER);
+        desk.rule(1, 2, 15, Texts.EVER);
         return desk;
     }
 
@@ -42,12 +63,18 @@ final class Scenes {
         return desk;
     }
 
-    /** As ruled, with tickets up to number 60. */
-    static GrantDesk crowded(int... predicate) {
+    /** As ruled, with tickets up to a number. */
+    static GrantDesk crowded(int tickets, int... predicate) {
         GrantDesk desk = ruled(predicate);
-        for (int ticket = 2; ticket <= 60; ticket++) {
+        for (int ticket = 2; ticket <= tickets; ticket++) {
             desk.ask(1, 0, 1, -1, 0);
         }
+        return desk;
+    }
+
+    /** The desk, that many ticks later. */
+    static GrantDesk later(GrantDesk desk, int ticks) {
+        desk.tick(ticks);
         return desk;
     }
 

@@ -4,91 +4,102 @@ import java.util.function.IntSupplier;
 final class Snapshot {
     private static final int OWNERS = 3;
     private static final int CLIENTS = 3;
-    private static final int KEYS_SEEN = 4;
-    private static final int RESOURCES_SEEN = 4;
+    private static final int KEYS = 12;
+    private static final int RESOURCES = 12;
+    private static final int EVERY_SCOPE = 15;
 
-    private Snapshot() {
+    private final GrantDesk desk;
+    private final StringBuilder seen = new StringBuilder();
+
+    private Snapshot(GrantDesk desk) {
+        this.desk = desk;
     }
 
     static String of(GrantDesk desk) {
-        StringBuilder seen = new StringBuilder();
-        seen.append("clock ").append(desk.tick(0));
-        addResources(seen, desk);
-        int tickets = addTickets(seen, desk);
-        int tokens = addTokens(seen, desk);
-        addIntrospections(seen, desk, tokens);
-        addRedemptions(seen, desk, tickets);
-        addNextNumbers(seen, desk);
-        return seen.toString();
+        Snapshot snapshot = new Snapshot(desk);
+        snapshot.add("clock", () -> desk.tick(0));
+        snapshot.addResources();
+        int tickets = snapshot.addTickets();
+        int tokens = snapshot.addTokens(1);
+        snapshot.addIntrospections(1, Math.min(tokens, 3));
+        snapshot.addRedemptions(tickets);
+        int now = snapshot.addTokens(tokens + 1);
+        snapshot.addIntrospections(tokens + 1, Math.min(now, tokens + 3));
+        snapshot.addKeys();
+        return snapshot.seen.toString();
     }
 
-    private static void addResources(StringBuilder seen, GrantDesk desk) {
-        for (int r = 0; r < 12; r++) {
-            if (desk.resource(r, 0) != -1) {
-                seen.append("; resource ").append(r);
-                for (int what = 0; what < 3; what++) {
-                    seen.append(' ').append(desk.resource(r, what));
-                }
+    private void addResources() {
+        for (int r = 0; r < RESOURCES; r++) {
+            seen.append("; resource ").append(r).append(':');
+            for (int what = 0; what < 3; what++) {
+                seen.append(' ').append(desk.resource(r, what));
             }
         }
     }
 
-    private static int addTickets(StringBuilder seen, GrantDesk desk) {
+    private int addTickets() {
         int ticket = 1;
-        for (; desk.ticket(ticket, 0) != -1; ticket++) {
-            seen.append("; ticket ").append(ticket);
-            for (int what = 0; what < 4; what++) {
+        for (int state = desk.ticket(1, 0); state != -1; state = desk.ticket(ticket, 0)) {
+            seen.append("; ticket ").append(ticket).append(": ").append(state);
+            for (int what = 1; what < 4; what++) {
                 seen.append(' ').append(desk.ticket(ticket, what));
             }
+            ticket++;
         }
         return ticket - 1;
     }
 
-    private static int addTokens(StringBuilder seen, GrantDesk desk) {
-        int token = 1;
-        for (; desk.token(token, 0) != -1; token++) {
-            seen.append("; token ").append(token);
-            for (int what = 0; what < 4; what++) {
+    private int addTokens(int first) {
+        int token = first;
+        for (int good = desk.token(token, 0); good != -1; good = desk.token(token, 0)) {
+            seen.append("; token ").append(token).append(": ").append(good);
+            for (int what = 1; what < 4; what++) {
                 seen.append(' ').append(desk.token(token, what));
             }
+            token++;
         }
         return token - 1;
     }
 
-    private static void addIntrospections(StringBuilder seen, GrantDesk desk, int tokens) {
-        for (int key = 1; key <= KEYS_SEEN; key++) {
-            for (int r = 0; r < RESOURCES_SEEN; r++) {
-                for (int token = 1; token <= Math.max(1, Math.min(tokens, 3)); token++) {
-                    int k = key;
+    /** The first keys, for resources that are likely to be theirs. */
+    private void addIntrospections(int firstToken, int lastToken) {
+        for (int token = firstToken; token <= lastToken; token++) {
+            for (int r = 0; r < 4; r++) {
+                for (int key = 1; key <= 2; key++) {
                     int t = token;
+                    int k = key;
                     int number = r;
-                    add(seen, "introspect", () -> desk.introspect(k, t, number));
+                    add("introspect", () -> desk.introspect(k, t, number));
                 }
             }
         }
     }
 
     /** The last tickets tell what claims, permissions and rules come to. */
-    private static void addRedemptions(StringBuilder seen, GrantDesk desk, int tickets) {
+    private void addRedemptions(int tickets) {
         for (int ticket = Math.max(1, tickets - 3); ticket <= tickets; ticket++) {
             for (int client = CLIENTS - 1; client >= 0; client--) {
                 int t = ticket;
                 int c = client;
-                add(seen, "redeem", () -> desk.redeem(c, t, 0, 0));
+                add("redeem", () -> desk.redeem(c, t, t % 2 == 0 ? EVERY_SCOPE : 0, 0));
             }
         }
-        addTokens(seen, desk);
     }
 
-    private static void addNextNumbers(StringBuilder seen, GrantDesk desk) {
+    /** Which keys speak, and what numbers come next. */
+    private void addKeys() {
+        add("register", () -> desk.register(1, 1));
         for (int owner = 0; owner < OWNERS; owner++) {
             int o = owner;
-            add(seen, "key", () -> desk.key(o));
+            add("key", () -> desk.key(o));
         }
-        add(seen, "register", () -> desk.register(1, 1));
+        for (int key = 1; key <= KEYS; key++) {
+            seen.append("; revoke ").append(desk.revoke(key));
+        }
     }
 
-    private static void add(StringBuilder seen, String name, IntSupplier call) {
+    private void add(String name, IntSupplier call) {
         seen.append("; ").append(name).append(' ');
         try {
             seen.append(call.getAsInt());

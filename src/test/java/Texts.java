@@ -1,5 +1,8 @@
 /** Writes predicates as texts; a predicate is the row of its bytes until it becomes a long. */
 final class Texts {
+    static final long EVER = 7;
+    static final long NO_TEXT = 0;
+
     private Texts() {
     }
 
