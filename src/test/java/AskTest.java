@@ -1,7 +1,7 @@
 @Section("Promise 9: ask")
 public final class AskTest {
-    private static final String ASKED = "A new ticket, bound to no client, without claims, for the scopes of resource r,"
-            + " and, if other is not -1, for those of that one: its number.";
+    private static final String ASKED = "A new ticket, bound to no client, without claims, for the scopes of"
+            + " resource r, and, if other is not -1, for those of that one: its number.";
     private static final String NO_SUCH = "NoSuchElementException: KEYLESS, or r, or other (if it is not -1),"
             + " is no registered resource of the key's owner.";
     private static final String ARGUMENT = "IllegalArgumentException: other is r, scopes or (if other is not -1) more"
@@ -50,18 +50,14 @@ public final class AskTest {
 
     @Sentence(NO_SUCH)
     static void keyless(Expect expect) {
-        expect.refusedFor(Scenes.KEYLESS, "key", Expect.NO_SUCH, Scenes::served, (desk, key) -> desk.ask(key, 0, 1, -1, 0));
-        expect.refusedFor(Scenes.KEYLESS, "key", Expect.NO_SUCH, Scenes::served, (desk, key) -> desk.ask(key, 0, 1, 2, 1));
-        expect.refusedFor(new int[] {0, 1}, "key", Expect.NO_SUCH, GrantDesk::new,
-                (desk, key) -> desk.ask(key, 0, 1, -1, 0));
+        expect.keyless((desk, key) -> desk.ask(key, 0, 1, -1, 0));
+        expect.keyless((desk, key) -> desk.ask(key, 0, 1, 2, 1));
     }
 
     @Sentence(NO_SUCH)
     static void noResourceOfTheOwner(Expect expect) {
-        expect.refusedFor(Scenes.NOT_OF_KEY_1, "resource", Expect.NO_SUCH, Scenes::served,
-                (desk, r) -> desk.ask(1, r, 1, -1, 0));
-        expect.refusedFor(Scenes.NOT_OF_KEY_1, "resource", Expect.NO_SUCH, Scenes::served,
-                (desk, r) -> desk.ask(1, r, 1, 0, 1));
+        expect.notOfTheOwner((desk, r) -> desk.ask(1, r, 1, -1, 0));
+        expect.notOfTheOwner((desk, r) -> desk.ask(1, r, 1, 0, 1));
         expect.refusedWhole("by another owner", Expect.NO_SUCH, Scenes::served, desk -> desk.ask(2, 0, 1, -1, 0));
     }
 
@@ -72,7 +68,7 @@ public final class AskTest {
     }
 
     @Sentence(NO_SUCH)
-    static void minusOneIsNoResourceBehindTheKey(Expect expect) {
+    static void rIsMinusOneLikeOther(Expect expect) {
         expect.refusedWhole("r is -1, like other", Expect.NO_SUCH, Scenes::served, desk -> desk.ask(1, -1, 1, -1, 1));
     }
 
@@ -121,7 +117,7 @@ public final class AskTest {
         expect.refusedWhole("some that it has", Expect.ARGUMENT, Scenes::served, desk -> desk.ask(1, 0, 15, -1, 0));
         expect.refusedWhole("that the other has", Expect.ARGUMENT, Scenes::served, desk -> desk.ask(1, 0, 8, 2, 8));
         expect.equal("all that the other has", Scenes.served().ask(1, 2, 8, 0, 7), 4);
-        expect.refusedWhole("one that the other lacks", Expect.ARGUMENT, Scenes::served, desk -> desk.ask(1, 2, 8, 0, 8));
+        expect.refusedWhole("one that it lacks", Expect.ARGUMENT, Scenes::served, desk -> desk.ask(1, 2, 8, 0, 8));
         expect.refusedWhole("some that it has", Expect.ARGUMENT, Scenes::served, desk -> desk.ask(1, 2, 8, 0, 9));
     }
 

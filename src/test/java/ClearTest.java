@@ -49,13 +49,12 @@ public final class ClearTest {
 
     @Sentence(NO_SUCH)
     static void keyless(Expect expect) {
-        expect.refusedFor(Scenes.KEYLESS, "key", Expect.NO_SUCH, Scenes::served, (desk, key) -> desk.clear(key, 0));
-        expect.refusedFor(new int[] {0, 1}, "key", Expect.NO_SUCH, GrantDesk::new, (desk, key) -> desk.clear(key, 0));
+        expect.keyless((desk, key) -> desk.clear(key, 0));
     }
 
     @Sentence(NO_SUCH)
     static void noResourceOfTheOwner(Expect expect) {
-        expect.refusedFor(Scenes.NOT_OF_KEY_1, "resource", Expect.NO_SUCH, Scenes::served, (desk, r) -> desk.clear(1, r));
+        expect.notOfTheOwner((desk, r) -> desk.clear(1, r));
         expect.refusedWhole("by another owner", Expect.NO_SUCH, Scenes::served, desk -> desk.clear(2, 0));
     }
 }

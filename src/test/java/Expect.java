@@ -63,6 +63,17 @@ final class Expect {
         }
     }
 
+    /** The call, made with each number as the key, for resource 0 if for any, knows none of them. */
+    void keyless(Call call) {
+        refusedFor(Scenes.KEYLESS, "key", NO_SUCH, Scenes::served, call);
+        refusedFor(new int[] {0, 1}, "key of none,", NO_SUCH, GrantDesk::new, call);
+    }
+
+    /** The call, made by key 1 with each number as the resource, finds none of its owner. */
+    void notOfTheOwner(Call call) {
+        refusedFor(Scenes.NOT_OF_KEY_1, "resource", NO_SUCH, Scenes::served, call);
+    }
+
     /** The call leaves the scene as if it had never been made. */
     void unchanged(String what, Supplier<GrantDesk> scene, Consumer<GrantDesk> call) {
         GrantDesk touched = scene.get();

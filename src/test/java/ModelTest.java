@@ -165,7 +165,8 @@ public final class ModelTest {
     }
 
     private void register(int key, int scopes) {
-        same("register(" + key + ", " + scopes + ")", () -> desk.register(key, scopes), () -> model.register(key, scopes));
+        same("register(" + key + ", " + scopes + ")",
+                () -> desk.register(key, scopes), () -> model.register(key, scopes));
     }
 
     private void rescope(int key, int r, int scopes) {
@@ -193,7 +194,8 @@ public final class ModelTest {
         int other = random.nextBoolean() ? -1 : someResource();
         int more = scopesOf(other);
         same("ask(" + key + ", " + r + ", " + scopes + ", " + other + ", " + more + ")",
-                () -> desk.ask(key, r, scopes, other, more), () -> newestTicket = model.ask(key, r, scopes, other, more));
+                () -> desk.ask(key, r, scopes, other, more),
+                () -> newestTicket = model.ask(key, r, scopes, other, more));
     }
 
     private void push() {

@@ -5,8 +5,8 @@ public final class NumbersTest {
     private static final String CLIENTS = "CLIENTS 0 .. 2.";
     private static final String SCOPES = "SCOPES are four bits (masks 1 .. 15).";
     private static final String KEY = "A KEY is a number 1, 2, .. that speaks for an owner until it is revoked.";
-    private static final String RESOURCE = "A RESOURCE has a number 0, 1, .. in the order of registering (numbers are not"
-            + " given again), an owner, scopes, and RULES, in order;";
+    private static final String RESOURCE = "A RESOURCE has a number 0, 1, .. in the order of registering (numbers are"
+            + " not given again), an owner, scopes, and RULES, in order;";
     private static final String REGISTERED = "it is REGISTERED until it is taken out.";
     private static final String CLAIMS = "CLAIMS have a KIND 0 .. 11 and a VALUE 0 .. 99.";
     private static final String SEAL = "The SEAL of a claim is ((kind + 3) * 1009 + value * 101) mod 9973.";
@@ -56,7 +56,8 @@ public final class NumbersTest {
         int[] outside = Edges.and(Edges.outside(1, 15), -15, 17, 31, 1 << 30);
         expect.refusedFor(outside, "register", Expect.ARGUMENT, Scenes::served, (desk, s) -> desk.register(1, s));
         expect.refusedFor(outside, "rescope", Expect.ARGUMENT, Scenes::served, (desk, s) -> desk.rescope(1, 2, s));
-        expect.refusedFor(outside, "rule", Expect.ARGUMENT, Scenes::served, (desk, s) -> desk.rule(1, 2, s, Texts.EVER));
+        expect.refusedFor(outside, "rule", Expect.ARGUMENT, Scenes::served,
+                (desk, s) -> desk.rule(1, 2, s, Texts.EVER));
         expect.refusedFor(outside, "ask", Expect.ARGUMENT, Scenes::served, (desk, s) -> desk.ask(1, 2, s, -1, 0));
         expect.refusedFor(outside, "more", Expect.ARGUMENT, Scenes::served, (desk, s) -> desk.ask(1, 0, 1, 2, s));
     }

@@ -1,7 +1,7 @@
 @Section("Promise 10: push")
 public final class PushTest {
-    private static final String PUSHED = "A claim is pushed: the ticket is accepted from the client and rotated, and the"
-            + " new one has the claim, in place of one of its kind: the new number.";
+    private static final String PUSHED = "A claim is pushed: the ticket is accepted from the client and rotated, and"
+            + " the new one has the claim, in place of one of its kind: the new number.";
     private static final String END = "(It ends 10 ticks from now;";
     private static final String UNBOUND =
             "when anything is thrown the old one is bound to no other client than before.)";
@@ -216,7 +216,8 @@ public final class PushTest {
     @Sentence(UNSUPPORTED)
     static void anotherClaimsSeal(Expect expect) {
         int[] others = {Texts.seal(1, 40), Texts.seal(3, 40), Texts.seal(2, 39), Texts.seal(2, 41)};
-        expect.refusedFor(others, "seal", Expect.UNSUPPORTED, Scenes::served, (desk, seal) -> desk.push(0, 1, 2, 40, seal));
+        expect.refusedFor(others, "seal", Expect.UNSUPPORTED, Scenes::served,
+                (desk, seal) -> desk.push(0, 1, 2, 40, seal));
     }
 
     @Sentence(ARGUMENT + " " + STATE + " " + UNSUPPORTED)

@@ -1,7 +1,7 @@
 @Section("Promise 11: redeem")
 public final class RedeemRefusedTest {
-    private static final String ARGUMENT = "IllegalArgumentException: no such client, scopes not 0 .. 15, or the token is"
-            + " neither 0 nor a GOOD one of the client.";
+    private static final String ARGUMENT = "IllegalArgumentException: no such client, scopes not 0 .. 15, or the token"
+            + " is neither 0 nor a GOOD one of the client.";
     private static final String STATE = "IllegalStateException: the ticket is not accepted; or it would have to be"
             + " rotated, and there were 60.";
     private static final String UNSUPPORTED = "UnsupportedOperationException: nothing is granted, and no such rule is"

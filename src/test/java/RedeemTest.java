@@ -2,16 +2,16 @@
 @Section("Promise 11: redeem")
 public final class RedeemTest {
     private static final String ACCEPTED = "The ticket is accepted from the client.";
-    private static final String ASKED = "ASKED of each of its permissions whose resource is still registered: its scopes,"
-            + " and those of the scopes given that the resource has.";
+    private static final String ASKED = "ASKED of each of its permissions whose resource is still registered: its"
+            + " scopes, and those of the scopes given that the resource has.";
     private static final String GRANTED = "GRANTED: of those asked, the scopes of the resource's rules that are true on"
             + " the ticket's claims and the clock.";
     private static final String GIVEN = "When something is granted, the ticket is USED, and there is a new token of the"
             + " client with that; and, if the token given is not 0, with what that one has of resources that are still"
             + " registered (only scopes that they have), too: its number is answered.";
     private static final String STAYS_GOOD = "(That one stays GOOD.)";
-    private static final String OPEN = "When nothing is granted, but a rule of one of the resources is OPEN that has one"
-            + " of the scopes asked of it: the ticket is rotated, and minus the new number is answered.";
+    private static final String OPEN = "When nothing is granted, but a rule of one of the resources is OPEN that has"
+            + " one of the scopes asked of it: the ticket is rotated, and minus the new number is answered.";
 
     public static void main(String[] args) {
         Tests.run(RedeemTest.class);

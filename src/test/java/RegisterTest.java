@@ -41,8 +41,7 @@ public final class RegisterTest {
 
     @Sentence(NO_SUCH)
     static void keyless(Expect expect) {
-        expect.refusedFor(Scenes.KEYLESS, "key", Expect.NO_SUCH, Scenes::served, (desk, key) -> desk.register(key, 1));
-        expect.refusedFor(new int[] {0, 1}, "key", Expect.NO_SUCH, GrantDesk::new, (desk, key) -> desk.register(key, 1));
+        expect.keyless((desk, key) -> desk.register(key, 1));
     }
 
     @Sentence(ARGUMENT)

@@ -29,14 +29,12 @@ public final class RescopeTest {
 
     @Sentence(NO_SUCH)
     static void keyless(Expect expect) {
-        expect.refusedFor(Scenes.KEYLESS, "key", Expect.NO_SUCH, Scenes::served, (desk, key) -> desk.rescope(key, 0, 1));
-        expect.refusedFor(new int[] {0, 1}, "key", Expect.NO_SUCH, GrantDesk::new, (desk, key) -> desk.rescope(key, 0, 1));
+        expect.keyless((desk, key) -> desk.rescope(key, 0, 1));
     }
 
     @Sentence(NO_SUCH)
     static void noResourceOfTheOwner(Expect expect) {
-        expect.refusedFor(Scenes.NOT_OF_KEY_1, "resource", Expect.NO_SUCH, Scenes::served,
-                (desk, r) -> desk.rescope(1, r, 1));
+        expect.notOfTheOwner((desk, r) -> desk.rescope(1, r, 1));
         expect.refusedWhole("by another owner", Expect.NO_SUCH, Scenes::served, desk -> desk.rescope(2, 0, 1));
     }
 

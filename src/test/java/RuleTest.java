@@ -50,16 +50,12 @@ public final class RuleTest {
 
     @Sentence(NO_SUCH)
     static void keyless(Expect expect) {
-        expect.refusedFor(Scenes.KEYLESS, "key", Expect.NO_SUCH, Scenes::served,
-                (desk, key) -> desk.rule(key, 0, 1, Texts.EVER));
-        expect.refusedFor(new int[] {0, 1}, "key", Expect.NO_SUCH, GrantDesk::new,
-                (desk, key) -> desk.rule(key, 0, 1, Texts.EVER));
+        expect.keyless((desk, key) -> desk.rule(key, 0, 1, Texts.EVER));
     }
 
     @Sentence(NO_SUCH)
     static void noResourceOfTheOwner(Expect expect) {
-        expect.refusedFor(Scenes.NOT_OF_KEY_1, "resource", Expect.NO_SUCH, Scenes::served,
-                (desk, r) -> desk.rule(1, r, 1, Texts.EVER));
+        expect.notOfTheOwner((desk, r) -> desk.rule(1, r, 1, Texts.EVER));
         expect.refusedWhole("by another owner", Expect.NO_SUCH, Scenes::served, desk -> desk.rule(2, 0, 1, Texts.EVER));
     }
 

@@ -1,12 +1,16 @@
+import java.util.ArrayList;
 import java.util.Arrays;
+import java.util.HashSet;
+import java.util.List;
+import java.util.Set;
 
 /** Which longs are a predicate's text and which are none. */
 @Section("Terms")
 public final class TextTest {
     private static final String RULE = "A RULE has scopes and a PREDICATE, which is written as a TEXT: the bytes of a"
             + " long, the lowest first, 8 of them.";
-    private static final String SIGN = "A byte is a SIGN: its lowest three bits are what it is, and the five above them,"
-            + " its REST, 0 .. 31:";
+    private static final String SIGN = "A byte is a SIGN: its lowest three bits are what it is, and the five above"
+            + " them, its REST, 0 .. 31:";
     private static final String ALL = "1 ALL (rest 0), with two predicates behind it;";
     private static final String ANY = "2 ANY (rest 0), with two;";
     private static final String NOT = "3 NOT (rest 0), with one;";
@@ -282,6 +286,72 @@ public final class TextTest {
             none(expect, 3, 8 * rest);
             none(expect, 1, 7, 8 * rest);
             none(expect, 8 * rest, 7, 7);
+        }
+    }
+
+    /** What is no predicate is none in either place behind ALL and ANY, and behind NOT. */
+    private static void noneBehind(Expect expect, int... noPredicate) {
+        none(expect, Texts.all(noPredicate, Texts.ever()));
+        none(expect, Texts.all(Texts.ever(), noPredicate));
+        none(expect, Texts.any(noPredicate, Texts.ever()));
+        none(expect, Texts.any(Texts.ever(), noPredicate));
+        none(expect, Texts.not(noPredicate));
+    }
+
+    @Sentence(ELSE)
+    static void aWrongPredicateBehindASign(Expect expect) {
+        for (int rest : new int[] {1, 16, 31}) {
+            noneBehind(expect, 1 + 8 * rest, 7, 7);
+            noneBehind(expect, 2 + 8 * rest, 7, 7);
+            noneBehind(expect, 3 + 8 * rest, 7);
+            noneBehind(expect, 6 + 8 * rest, 7);
+            noneBehind(expect, 7 + 8 * rest);
+            noneBehind(expect, 8 * rest);
+        }
+        for (int value : new int[] {100, 128, 255}) {
+            noneBehind(expect, Texts.is(3, value));
+            noneBehind(expect, Texts.below(3, value));
+            noneBehind(expect, Texts.since(value));
+        }
+        for (int kind : new int[] {12, 31}) {
+            noneBehind(expect, Texts.is(kind, 3));
+            noneBehind(expect, Texts.below(kind, 3));
+        }
+    }
+
+    /** Every text whose bytes from the fourth on are 0, made sign by sign. */
+    private static Set<Long> shortTexts() {
+        List<int[]> leaves = new ArrayList<>(List.of(Texts.ever()));
+        for (int value = 0; value <= 99; value++) {
+            leaves.add(Texts.since(value));
+            for (int kind = 0; kind <= 11; kind++) {
+                leaves.add(Texts.is(kind, value));
+                leaves.add(Texts.below(kind, value));
+            }
+        }
+        Set<Long> texts = new HashSet<>();
+        for (int[] leaf : leaves) {
+            addWithNots(texts, leaf);
+            addWithNots(texts, Texts.all(Texts.ever(), leaf));
+            addWithNots(texts, Texts.any(Texts.ever(), leaf));
+        }
+        return texts;
+    }
+
+    private static void addWithNots(Set<Long> texts, int[] predicate) {
+        for (int[] with = predicate; Texts.text(with) < 1 << 24; with = Texts.not(with)) {
+            texts.add(Texts.text(with));
+        }
+    }
+
+    @Sentence(ELSE)
+    static void everyTwoBytesBeforeSomeThirds(Expect expect) {
+        Set<Long> texts = shortTexts();
+        for (int third : new int[] {0, 1, 3, 4, 7, 8, 99, 100, 255}) {
+            for (int two = 0; two < 1 << 16; two++) {
+                long text = (long) third << 16 | two;
+                due(expect, texts.contains(text), text);
+            }
         }
     }
 }

@@ -2,8 +2,8 @@
 @Section("Terms")
 public final class TicketLifeTest {
     private static final String TICKET = "A TICKET has a number (1, 2, ..), PERMISSIONS: one or two pairs of a resource"
-            + " and scopes, claims (at most one of each kind), a client it is BOUND to, or none, and ends 10 ticks after"
-            + " it was made.";
+            + " and scopes, claims (at most one of each kind), a client it is BOUND to, or none, and ends 10 ticks"
+            + " after it was made.";
     private static final String LIVE = "It is LIVE until it is USED, or its end comes (the clock is not less).";
     private static final String ACCEPTED =
             "It is ACCEPTED from a client if it is LIVE and bound to no other one; then it is bound to that client.";
