@@ -1,9 +1,13 @@
+import java.io.IOException;
 import java.lang.reflect.Member;
 import java.lang.reflect.Method;
 import java.lang.reflect.Modifier;
+import java.nio.file.Files;
 import java.util.Arrays;
+import java.util.List;
 import java.util.Set;
 import java.util.TreeSet;
+import java.util.regex.Pattern;
 import java.util.stream.Collectors;
 
 /** The public face, and rule 1 of LANGUAGE.md: nothing beside it can be seen. */
@@ -13,6 +17,8 @@ public final class FaceTest {
     private static final String NSE = "NoSuchElementException";
     private static final String UOE = "UnsupportedOperationException";
 
+    /** How each promise begins in the document. */
+    private static final Pattern PROMISED = Pattern.compile("(?m)^`([^`]+)`:");
     private static final Set<String> FACE = new TreeSet<>(Set.of(
             "int key(int) " + IAE + " " + ISE,
             "boolean revoke(int) ",
@@ -31,8 +37,27 @@ public final class FaceTest {
             "int ticket(int, int) ",
             "int token(int, int) "));
 
-    public static void main(String[] args) {
+    public static void main(String[] args) throws IOException {
         Expect expect = new Expect();
+        checkMembers(expect);
+        if (Files.exists(Source.DOCUMENT)) {
+            checkDocument(expect);
+        }
+        expect.end();
+    }
+
+    /** With the names of the parameters, which the compiled class has not. */
+    private static void checkDocument(Expect expect) throws IOException {
+        List<String> program = Source.faceOfProgram();
+        List<String> face = Source.face(Source.section(Source.DOCUMENT, "The public face"));
+        List<String> promised = PROMISED.matcher(Files.readString(Source.DOCUMENT)).results()
+                .map(found -> found.group(1)).toList();
+        expect.equal("public members of the program", program.size(), FACE.size() + 1);
+        expect.same("the program and the public face", program.toString(), face.toString());
+        expect.same("the program and the promises", program.toString(), promised.toString());
+    }
+
+    private static void checkMembers(Expect expect) {
         Class<?> desk = GrantDesk.class;
         expect.equal("public and final", desk.getModifiers(), Modifier.PUBLIC | Modifier.FINAL);
         expect.equal("constructors", desk.getDeclaredConstructors().length, 1);
@@ -46,7 +71,6 @@ public final class FaceTest {
             expect.equal(inside + " is static", Modifier.isStatic(modifiers), true);
             expect.equal(inside + " is hidden", Modifier.isPublic(modifiers) || Modifier.isProtected(modifiers), false);
         }
-        expect.end();
     }
 
     private static Set<String> publicMethods(Class<?> desk) {

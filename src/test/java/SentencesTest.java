@@ -14,19 +14,19 @@ import java.util.stream.Stream;
 
 /**
  * Holds the tests and the document together: the sentence of each test stands in its section, and no
- * words of the terms and the promises are without a test. With an argument it lists the tests of each.
+ * words that ask for something are without a test. With an argument it lists the tests of each.
  */
 public final class SentencesTest {
-    private static final Path DOCUMENT = Path.of("../shared/DOC.md");
-    private static final Path TESTS = Path.of("src/test/java");
+    /** FaceTest holds the one; the other says what need not be held. */
+    private static final List<String> WITHOUT_SENTENCES = List.of("The public face", "Not promised");
     private static final Pattern HEADING = Pattern.compile("(?m)^## (.*)$");
     /** A promise's signature, which FaceTest holds, and the marks of a block. */
     private static final Pattern NO_WORDS = Pattern.compile("(?s)^`[^`]*`: *|```(text)?");
     private static final Pattern WORDS_LEFT = Pattern.compile("[^\\x00]*[\\p{Alnum}][^\\x00]*");
 
     public static void main(String[] args) throws IOException, ClassNotFoundException {
-        if (!Files.exists(DOCUMENT)) {
-            System.out.println("no " + DOCUMENT + ", so that its sentences are not looked for");
+        if (!Files.exists(Source.DOCUMENT)) {
+            System.out.println("no " + Source.DOCUMENT + ", so that its sentences are not looked for");
             return;
         }
         Expect expect = new Expect();
@@ -36,7 +36,7 @@ public final class SentencesTest {
             checkSentences(expect, tests, sections);
         }
         for (String heading : sections.keySet()) {
-            if (heading.equals("Terms") || heading.startsWith("Promise ")) {
+            if (!WITHOUT_SENTENCES.contains(heading)) {
                 checkWordsLeft(expect, heading, sections.get(heading), classes);
             }
         }
@@ -48,7 +48,7 @@ public final class SentencesTest {
 
     /** The text under each heading, in one line. */
     private static Map<String, String> sections() throws IOException {
-        String document = Files.readString(DOCUMENT);
+        String document = Files.readString(Source.DOCUMENT);
         Map<String, String> sections = new LinkedHashMap<>();
         Matcher heading = HEADING.matcher(document);
         String name = null;
@@ -71,7 +71,7 @@ public final class SentencesTest {
 
     private static List<Class<?>> testClasses() throws IOException, ClassNotFoundException {
         List<Class<?>> classes = new ArrayList<>();
-        try (Stream<Path> files = Files.list(TESTS)) {
+        try (Stream<Path> files = Files.list(Source.TESTS)) {
             for (Path file : files.sorted().toList()) {
                 String name = file.getFileName().toString();
                 if (name.endsWith("Test.java")) {
